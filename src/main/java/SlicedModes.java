@@ -503,8 +503,8 @@ public final class SlicedModes {
 
         long eightAt(int from) {
             long v = 0;
-            for (int i = 0; i < 8; i++) {
-                v = v << 8 | at(from + i);
+            for (int i = from; i < from + 8; i++) {
+                v = v << 8 | (i >= 0 && i < size && i < octets.length ? octets[i] : 0);
             }
             return v;
         }
@@ -534,6 +534,11 @@ public final class SlicedModes {
         void read(Row row, int from) {
             high = row.eightAt(from);
             low = row.eightAt(from + 8);
+        }
+
+        void addPart(Row row, int from) {
+            high ^= row.eightAt(from);
+            low ^= row.eightAt(from + 8);
         }
 
         void add(Block other) {
@@ -714,13 +719,6 @@ public final class SlicedModes {
             high = (pairHigh << 16 | pairLow >>> 48) ^ over ^ nextHigh ^ acrossOctets(pairHigh);
         }
 
-        /** Four mixings give the words back, so three of them undo one. */
-        void mixWordsBack() {
-            for (int i = 0; i < 3; i++) {
-                mixWords();
-            }
-        }
-
         private static long nextOctets(long x) {
             return x << 1 & 0xeeeeeeeeeeeeeeeeL | x >>> 3 & 0x1111111111111111L;
         }
@@ -879,7 +877,10 @@ public final class SlicedModes {
                 slices.shiftRowsBack();
                 slices.boxBack();
                 slices.addKey(keys, r);
-                slices.mixWordsBack();
+                // Four mixings give the words back, so three of them undo one.
+                slices.mixWords();
+                slices.mixWords();
+                slices.mixWords();
             }
             slices.shiftRowsBack();
             slices.boxBack();
@@ -1073,6 +1074,7 @@ public final class SlicedModes {
         private final Block tweak;
         private final Block block;
         private final Block part;
+        private final Block kept;
 
         Sectors(Cipher first, Cipher second, Row start) {
             this.first = first;
@@ -1081,6 +1083,7 @@ public final class SlicedModes {
             tweak = new Block();
             block = new Block();
             part = new Block();
+            kept = new Block();
         }
 
         private void begin() {
@@ -1130,31 +1133,24 @@ public final class SlicedModes {
                 tweak.makeDoubleLowFirst();
             }
             if (over != 0) {
-                unlockEnd(text, whole, over, made);
+                // The last whole block was sealed with the tweak behind the one of the part.
+                kept.copy(tweak);
+                tweak.makeDoubleLowFirst();
+                block.read(text, whole);
+                unlockBlock(block);
+                borrowEnd(text, whole + 16, over);
+                tweak.copy(kept);
+                unlockBlock(part);
+                made.appendBlock(part, 16);
+                made.appendBlock(block, over);
             }
         }
 
-        /** The last whole block was sealed with the tweak behind the one that the other has. */
-        private void unlockEnd(Row text, int whole, int over, Row made) {
-            long keptHigh = tweak.high;
-            long keptLow = tweak.low;
-            tweak.makeDoubleLowFirst();
-            block.read(text, whole);
-            unlockBlock(block);
-            borrowEnd(text, whole + 16, over);
-            tweak.become(keptHigh, keptLow);
-            unlockBlock(part);
-            made.appendBlock(part, 16);
-            made.appendBlock(block, over);
-        }
-
+        /** A part of the text and behind it the octets that the block has beyond it. */
         private void borrowEnd(Row text, int from, int over) {
-            long high = block.high;
-            long low = block.low;
-            block.dropFirst(over);
-            part.read(text, from);
-            part.add(block);
-            block.become(high, low);
+            part.copy(block);
+            part.dropFirst(over);
+            part.addPart(text, from);
         }
     }
 
@@ -1362,7 +1358,6 @@ public final class SlicedModes {
         private final Row start;
         private final Row aside;
         private final Row work;
-        private final Block block;
         private final Block subkey;
         private final Block d;
         private final Block number;
@@ -1374,7 +1369,6 @@ public final class SlicedModes {
             this.start = start;
             this.aside = aside;
             this.work = work;
-            block = new Block();
             subkey = new Block();
             d = new Block();
             number = new Block();
@@ -1382,13 +1376,8 @@ public final class SlicedModes {
 
         void chainSum(Row row, Block y) {
             y.become(0, 0);
-            chainUpTo(row, row.size, y);
-        }
-
-        private void chainUpTo(Row row, int end, Block y) {
-            for (int at = 0; at < end; at += 16) {
-                block.read(row, at);
-                y.add(block);
+            for (int at = 0; at < row.size; at += 16) {
+                y.addPart(row, at);
                 first.encrypt(y);
             }
         }
@@ -1396,16 +1385,18 @@ public final class SlicedModes {
         void mac(Row row, Block y) {
             int last = row.size == 0 ? 0 : row.size - 1 & ~15;
             y.become(0, 0);
-            chainUpTo(row, last, y);
+            for (int at = 0; at < last; at += 16) {
+                y.addPart(row, at);
+                first.encrypt(y);
+            }
             subkey.become(0, 0);
             first.encrypt(subkey);
             subkey.makeDouble();
-            block.read(row, last);
+            y.addPart(row, last);
             if (row.size - last < 16) {
-                block.addOctet(row.size - last, 128);
+                y.addOctet(row.size - last, 128);
                 subkey.makeDouble();
             }
-            y.add(block);
             y.add(subkey);
             first.encrypt(y);
         }
