@@ -31,9 +31,13 @@ final class Reference {
     }
 
     private static Cipher blockCipher(byte[] key) {
+        return blockCipher(key, Cipher.ENCRYPT_MODE);
+    }
+
+    private static Cipher blockCipher(byte[] key, int way) {
         try {
             Cipher cipher = Cipher.getInstance("AES/ECB/NoPadding");
-            cipher.init(Cipher.ENCRYPT_MODE, new SecretKeySpec(key, "AES"));
+            cipher.init(way, new SecretKeySpec(key, "AES"));
             return cipher;
         } catch (GeneralSecurityException e) {
             throw new IllegalStateException(e);
@@ -64,6 +68,16 @@ final class Reference {
         } catch (GeneralSecurityException e) {
             throw new IllegalStateException(e);
         }
+    }
+
+    /** E of each block of a row. */
+    static byte[] e(byte[] key, byte[] blocks) {
+        return e(blockCipher(key), blocks);
+    }
+
+    /** D of each block of a row. */
+    static byte[] d(byte[] key, byte[] blocks) {
+        return e(blockCipher(key, Cipher.DECRYPT_MODE), blocks);
     }
 
     byte[] sealed(int kind, byte[] p) {
@@ -117,16 +131,16 @@ final class Reference {
         return Arrays.copyOf(p, (p.length + multiple - 1) / multiple * multiple);
     }
 
-    private static byte[] marked(byte[] part) {
+    static byte[] marked(byte[] part) {
         return Arrays.copyOf(join(part, new byte[] {(byte) 128}), 16);
     }
 
-    private static byte[] part(byte[] p, int from, int size) {
+    static byte[] part(byte[] p, int from, int size) {
         return Arrays.copyOfRange(p, from, Math.min(p.length, from + size));
     }
 
     /** The sum of two rows, as long as the shorter one. */
-    private static byte[] plus(byte[] a, byte[] b) {
+    static byte[] plus(byte[] a, byte[] b) {
         byte[] made = new byte[Math.min(a.length, b.length)];
         for (int i = 0; i < made.length; i++) {
             made[i] = (byte) (a[i] ^ b[i]);
@@ -134,7 +148,7 @@ final class Reference {
         return made;
     }
 
-    private static byte[] block(BigInteger v) {
+    static byte[] block(BigInteger v) {
         byte[] made = new byte[16];
         for (int i = 0; i < 16; i++) {
             made[i] = v.shiftRight(120 - 8 * i).byteValue();
@@ -142,12 +156,12 @@ final class Reference {
         return made;
     }
 
-    private static byte[] doubled(byte[] block) {
+    static byte[] doubled(byte[] block) {
         BigInteger v = new BigInteger(1, block).shiftLeft(1);
         return block(v.testBit(128) ? v.clearBit(128).xor(BigInteger.valueOf(135)) : v);
     }
 
-    private static byte[] reversed(byte[] block) {
+    static byte[] reversed(byte[] block) {
         byte[] made = new byte[16];
         for (int i = 0; i < 16; i++) {
             made[i] = block[15 - i];
@@ -222,7 +236,7 @@ final class Reference {
     }
 
     /** Bit 127 of the numbers is x^0; powers beyond x^127 are taken down one by one. */
-    private static BigInteger galoisProduct(BigInteger a, BigInteger b) {
+    static BigInteger galoisProduct(BigInteger a, BigInteger b) {
         int[] product = new int[255];
         for (int i = 0; i < 128; i++) {
             for (int j = 0; j < 128; j++) {

@@ -3,13 +3,14 @@ import java.util.Random;
 
 /** Promises 1 to 13 together: long runs of calls on one object, each answer against a model. */
 public final class RunTest {
-    private static final int CALLS = 512;
-    private static final int RUNS = 300;
+    private static final int RUNS = 600;
+    // A step makes some calls more than one; the rest is for reading all rows at the end.
+    private static final int CALLS = Subject.MOST_CALLS - 40;
     private static final int[] ROOMS = {64, 512, 64, 256};
     private static final Check check = new Check();
 
     private final Random random;
-    private final SlicedModes x = new SlicedModes();
+    private final Subject x = new Subject();
     private final byte[][] rows = {new byte[0], new byte[0], new byte[0], new byte[0]};
     private byte[] out = new byte[0];
     private int m = 16;
@@ -21,8 +22,8 @@ public final class RunTest {
     public static void main(String[] args) {
         for (int run = 0; run < RUNS; run++) {
             RunTest test = new RunTest(run);
-            for (int call = 0; call < CALLS; call++) {
-                test.step("run " + run + ", call " + call + ": ");
+            while (test.x.calls() < CALLS) {
+                test.step("run " + run + ", after " + test.x.calls() + " calls: ");
             }
             check.due("run " + run + ": OUT at the end", Check.out(test.x), test.out);
             for (int row = 0; row < 4; row++) {
@@ -173,12 +174,26 @@ public final class RunTest {
             want = out.length;
         }
         check.due(what + "seal(" + kind + ")", x.seal(kind), want);
-        check.due(what + "OUT of seal(" + kind + ")", Check.out(x), out);
+        someOut(what + "after seal(" + kind + "), ");
+    }
+
+    /** The first octet, the last one, one between, and that there is none behind. */
+    private void someOut(String what) {
+        if (out.length > 0) {
+            outAt(what, 0);
+            outAt(what, out.length - 1);
+            outAt(what, random.nextInt(out.length));
+        }
+        outAt(what, out.length);
+    }
+
+    private void outAt(String what, int i) {
+        check.due(what + "out(" + i + ")", x.out(i), i >= 0 && i < out.length ? out[i] & 255 : -2);
     }
 
     /** A new object opens beside the one of the run: what was called before must not matter. */
     private void open(String what, int kind) {
-        SlicedModes fresh = new SlicedModes();
+        Subject fresh = new Subject();
         for (int row = 0; row < 4; row++) {
             Check.set(fresh, row, rows[row]);
         }
@@ -188,7 +203,7 @@ public final class RunTest {
         check.holds(what + "refusal of open(" + kind + ")", refusal < 0 ? want == refusal : want >= 0 || want == -6);
         out = want >= 0 ? Check.out(fresh) : out;
         check.due(what + "open(" + kind + ")", x.open(kind), want);
-        check.due(what + "OUT of open(" + kind + ")", Check.out(x), out);
+        someOut(what + "after open(" + kind + "), ");
     }
 
     private void sum(String what) {
@@ -199,12 +214,11 @@ public final class RunTest {
             want = 16;
         }
         check.due(what + "sum(" + kind + ")", x.sum(kind), want);
-        check.due(what + "OUT of sum(" + kind + ")", Check.out(x), out);
+        someOut(what + "after sum(" + kind + "), ");
     }
 
     private void out(String what) {
-        int i = random.nextInt(60) - 2;
-        check.due(what + "out(" + i + ")", x.out(i), i >= 0 && i < out.length ? out[i] & 255 : -2);
+        outAt(what, random.nextInt(60) - 2);
     }
 
     private void take(String what) {

@@ -1,4 +1,3 @@
-import java.math.BigInteger;
 import java.util.Arrays;
 import java.util.Random;
 
@@ -15,7 +14,6 @@ public final class SealTest {
             everyStart(kind);
             everyTag(kind);
         }
-        carries();
         rightBlocks();
         everySum();
         check.end();
@@ -68,8 +66,8 @@ public final class SealTest {
         return new int[] {rows[0].length, rows[1].length, rows[2].length, rows[3].length};
     }
 
-    private static SlicedModes object(byte[][] rows, int m) {
-        SlicedModes x = new SlicedModes();
+    private static Subject object(byte[][] rows, int m) {
+        Subject x = new Subject();
         for (int row = 0; row < 4; row++) {
             Check.set(x, row, rows[row]);
         }
@@ -80,7 +78,7 @@ public final class SealTest {
     /** Seals; then opens what was sealed, and what was sealed with one bit altered. */
     private static void whole(int kind, byte[][] rows, int m) {
         String what = "kind " + kind + ", rows of " + Arrays.toString(sizes(rows)) + ", m " + m;
-        SlicedModes x = object(rows, m);
+        Subject x = object(rows, m);
         int refusal = Lengths.refusal(kind, false, sizes(rows), m);
         if (refusal < 0) {
             check.due(what, x.seal(kind), refusal);
@@ -94,7 +92,7 @@ public final class SealTest {
             check.due(what + ": take", x.take(Check.DATA), -4);
             return;
         }
-        SlicedModes y = object(new byte[][] {rows[0], want, rows[2], rows[3]}, m);
+        Subject y = object(new byte[][] {rows[0], want, rows[2], rows[3]}, m);
         check.due(what + ": open", y.open(kind), rows[1].length);
         check.due(what + ": open", Check.out(y), rows[1]);
         if (want.length > 0) {
@@ -102,7 +100,7 @@ public final class SealTest {
         }
     }
 
-    private static void altered(String what, int kind, SlicedModes y, int size) {
+    private static void altered(String what, int kind, Subject y, int size) {
         byte[] before = Check.out(y);
         int i = random.nextInt(size);
         y.alter(Check.DATA, i, y.octet(Check.DATA, i) ^ 1 << random.nextInt(8));
@@ -116,88 +114,12 @@ public final class SealTest {
         }
     }
 
-    /** Countings that run over an octet, over half a block, over all; over four octets in GALOIS. */
-    private static void carries() {
-        String[] starts = {"ffffffffffffffffffffffffffffffff", "000000000000000000000000000000ff",
-            "0000000000000000ffffffffffffffff", "00000000000000fffffffffffffffffe", "000000000000000000000000fffffffe"};
-        for (String start : starts) {
-            whole(8, new byte[][] {octets(16), octets(100), Check.octets(start), new byte[0]}, 16);
-        }
-        SlicedModes x = object(new byte[][] {octets(16), octets(512), new byte[0], new byte[0]}, 16);
-        byte[] key = Check.row(x, Check.KEY);
-        byte[] start = startWithHighCount(key);
-        whole(12, new byte[][] {key, octets(496), start, octets(3)}, 16);
-    }
-
-    /** A START of GALOIS whose J has last four octets so high that 31 blocks run over them. */
-    private static byte[] startWithHighCount(byte[] key) {
-        Reference by = new Reference(key, new byte[16], new byte[0], 16, false);
-        // J of 16 octets is (START H + lengths) H: linear in START, so START is solved for bit by bit.
-        byte[] zero = joinLengths(new byte[16]);
-        byte[] base = by.summed(3, zero);
-        BigInteger[] columns = new BigInteger[128];
-        for (int i = 0; i < 128; i++) {
-            byte[] one = new byte[16];
-            one[i / 8] = (byte) (128 >> i % 8);
-            columns[i] = new BigInteger(1, by.summed(3, joinLengths(one)))
-                    .xor(new BigInteger(1, base));
-        }
-        BigInteger wanted = new BigInteger("00112233445566778899aabbfffffff0", 16);
-        return solve(columns, wanted.xor(new BigInteger(1, base)));
-    }
-
-    private static byte[] joinLengths(byte[] start) {
-        return Reference.join(start, Reference.number(128, 16));
-    }
-
-    /** Which columns add up to the wanted one, by elimination. */
-    private static byte[] solve(BigInteger[] columns, BigInteger wanted) {
-        BigInteger[] value = columns.clone();
-        BigInteger[] made = new BigInteger[128];
-        for (int i = 0; i < 128; i++) {
-            made[i] = BigInteger.ONE.shiftLeft(127 - i);
-        }
-        BigInteger left = wanted;
-        BigInteger chosen = BigInteger.ZERO;
-        for (int bit = 127, done = 0; bit >= 0; bit--) {
-            int found = done;
-            while (found < 128 && !value[found].testBit(bit)) {
-                found++;
-            }
-            if (found == 128) {
-                throw new IllegalStateException("the columns do not span");
-            }
-            BigInteger v = value[found];
-            BigInteger w = made[found];
-            value[found] = value[done];
-            made[found] = made[done];
-            value[done] = v;
-            made[done] = w;
-            for (int i = done + 1; i < 128; i++) {
-                if (value[i].testBit(bit)) {
-                    value[i] = value[i].xor(v);
-                    made[i] = made[i].xor(w);
-                }
-            }
-            if (left.testBit(bit)) {
-                left = left.xor(v);
-                chosen = chosen.xor(w);
-            }
-            done++;
-        }
-        byte[] start = new byte[16];
-        for (int i = 0; i < 16; i++) {
-            start[i] = chosen.shiftRight(120 - 8 * i).byteValue();
-        }
-        return start;
-    }
-
     /** What any DATA opens to seals to that DATA again, where nothing is checked. */
     private static void rightBlocks() {
         for (int kind : new int[] {1, 2, 4, 5, 6, 7, 8, 9}) {
             for (int size = 32; size <= 512; size += 16) {
                 byte[][] rows = {anyKey(kind), octets(size), octets(16), octets(0)};
-                SlicedModes x = object(rows, 16);
+                Subject x = object(rows, 16);
                 check.due("open(" + kind + ")", x.open(kind), size);
                 x.take(Check.DATA);
                 check.due("seal(" + kind + ")", x.seal(kind), size);
@@ -210,7 +132,7 @@ public final class SealTest {
         for (int kind = 1; kind <= 3; kind++) {
             for (int size = 0; size <= 512; size += size < 70 || size > 490 ? 1 : 16) {
                 byte[][] rows = {octets(oneOf(16, 24, 32)), octets(size), octets(oneOf(0, 16, 9)), octets(3)};
-                SlicedModes x = object(rows, 16);
+                Subject x = object(rows, 16);
                 int refusal = Lengths.sumRefusal(kind, sizes(rows));
                 check.due("sum(" + kind + ") of " + size, x.sum(kind), refusal < 0 ? refusal : 16);
                 byte[] want = refusal < 0 ? new byte[0]

@@ -22,7 +22,7 @@ public final class VectorTest {
 
     /** Sealing gives what is due, opening that gives DATA back, and DATA stays in both. */
     private static void vector(int kind, String[] keyStartAside, String data, String sealed, int m) {
-        SlicedModes x = new SlicedModes();
+        Subject x = new Subject();
         Check.set(x, Check.KEY, Check.octets(keyStartAside[0]));
         Check.set(x, Check.START, Check.octets(keyStartAside[1]));
         Check.set(x, Check.ASIDE, Check.octets(keyStartAside[2]));
@@ -160,7 +160,7 @@ public final class VectorTest {
             "dfa66747de9ae63030ca32611497c827", "51f0bebf7e3b9d92fc49741779363cfe"};
         int[] sizes = {0, 16, 40, 64};
         for (int i = 0; i < sums.length; i++) {
-            SlicedModes x = new SlicedModes();
+            Subject x = new Subject();
             Check.set(x, Check.KEY, Check.octets(KEY_38A));
             Check.set(x, Check.DATA, Check.octets(TEXT_38A));
             x.cut(Check.DATA, sizes[i]);
