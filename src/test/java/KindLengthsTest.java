@@ -13,7 +13,11 @@ public final class KindLengthsTest {
         made();
         for (int kind = 1; kind <= 16; kind++) {
             keys(kind);
+        }
+        for (int kind = 12; kind <= 16; kind++) {
             asides(kind);
+        }
+        for (int kind : new int[] {12, 13, 14, 16}) {
             tagSizes(kind);
         }
         notLookedAt();
@@ -141,7 +145,8 @@ public final class KindLengthsTest {
     }
 
     private static void tagSizes(int kind) {
-        check.says("Terms 2, " + kind + ": TAGS: the first m count, 4 .. 16; COUNTED 4, 6, .. 16 (-2: 13 with an odd m)");
+        check.says("Terms 2, " + kind + ": TAGS: the first m count, "
+                + (kind == 13 ? "4, 6, .. 16 (-2: 13 with an odd m)" : "4 .. 16 as told by tag()"));
         for (int m = 4; m <= 16; m++) {
             Rows rows = new Rows(kind).tag(m);
             if (kind == 13 && m % 2 == 1) {
@@ -151,10 +156,8 @@ public final class KindLengthsTest {
                 continue;
             }
             rows.bothWays(check, "m of " + m);
-            if (kind == 12 || kind == 13 || kind == 14 || kind == 16) {
-                check.due("m of " + m + ": how many", rows.object().seal(kind), 32 + m);
-                atLeastTag(kind, m);
-            }
+            check.due("m of " + m + ": how many", rows.object().seal(kind), 32 + m);
+            atLeastTag(kind, m);
         }
     }
 
@@ -173,11 +176,15 @@ public final class KindLengthsTest {
         check.says("Terms 2: a row of which a KIND tells nothing is not looked at");
         for (int kind = 1; kind <= 11; kind++) {
             byte[] want = new Rows(kind).sealed();
-            for (int n : new int[] {0, 1, 16, 256}) {
-                new Rows(kind).aside(Rows.octets(n, 11)).seals(check, "ASIDE of " + n, want);
+            for (int n : new int[] {0, 1, 15, 16, 17, 255, 256}) {
+                Rows rows = new Rows(kind).aside(Rows.octets(n, 11));
+                rows.seals(check, "ASIDE of " + n, want);
+                rows.bothWays(check, "ASIDE of " + n);
             }
             for (int m = 4; m <= 16; m++) {
-                new Rows(kind).tag(m).seals(check, "m of " + m, want);
+                Rows rows = new Rows(kind).tag(m);
+                rows.seals(check, "m of " + m, want);
+                rows.bothWays(check, "m of " + m);
             }
         }
         for (int kind : new int[] {1, 10, 11}) {
@@ -188,7 +195,9 @@ public final class KindLengthsTest {
         }
         byte[] want = new Rows(15).sealed();
         for (int m = 4; m <= 16; m++) {
-            new Rows(15).tag(m).seals(check, "There is no TAG: m of " + m, want);
+            Rows rows = new Rows(15).tag(m);
+            rows.seals(check, "There is no TAG: m of " + m, want);
+            rows.bothWays(check, "There is no TAG: m of " + m);
         }
     }
 }

@@ -25,6 +25,8 @@ public final class SumTest {
         String what = "sum(" + kind + ") of " + rows.data.length;
         check.due(what, x.sum(kind), 16);
         check.due(what, Check.out(x), want);
+        check.due(what + " again", x.sum(kind), 16);
+        check.due(what + " again", Check.out(x), want);
         check.due("behind the 16 octets", x.out(16), -2);
         check.due("DATA after it", Check.row(x, Check.DATA), rows.data);
     }
