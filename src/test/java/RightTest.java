@@ -8,11 +8,13 @@ public final class RightTest {
     public static void main(String[] args) {
         paddings();
         paddingAlone();
+        paddingPairs();
         wrapA();
         paddedFirstFour();
         paddedNumber();
         paddedZeros();
         tagOctets();
+        tagPairs();
         tagOnly();
         boundRows();
         madeV();
@@ -75,6 +77,20 @@ public final class RightTest {
         check.due("one octet 1", openedEnd(one), 15);
     }
 
+    /** Two octets that are wrong by the same must not make up for each other. */
+    private static void paddingPairs() {
+        check.says("Terms 2, 3: -6 if there are not such behind, also with two wrong alike");
+        for (int one = 2; one <= 16; one++) {
+            for (int other = one + 1; other <= 16; other++) {
+                byte[] plain = Rows.octets(32, 1);
+                Arrays.fill(plain, 16, 32, (byte) 16);
+                plain[32 - one] ^= 4;
+                plain[32 - other] ^= 4;
+                check.due("wrong at " + one + " and " + other, openedEnd(plain), -6);
+            }
+        }
+    }
+
     private static int openedWrap(int kind, byte[] a, byte[] r) {
         Rows rows = new Rows(kind);
         rows.data = rows.reference().wrapped(a, r);
@@ -91,6 +107,8 @@ public final class RightTest {
                 check.due("A with bit " + bit + " altered", openedWrap(10, a, Rows.octets(size, 1)), -6);
             }
         }
+        byte[] alike = Check.octets("a6a6a6a7a6a6a6a7");
+        check.due("both halves of A wrong alike", openedWrap(10, alike, Rows.octets(16, 1)), -6);
         check.due("PADDED WRAP's A", openedWrap(10, Check.octets("a65959a600000010"), Rows.octets(16, 1)), -6);
     }
 
@@ -133,6 +151,30 @@ public final class RightTest {
                     byte[] r = new byte[most];
                     r[i] = (byte) (1 << i % 8);
                     check.due(n + " with k " + k + ", not 0 at " + i, openedPadded(n, r), i < n ? n : -6);
+                }
+                for (int i = n; i < most - 1; i++) {
+                    byte[] r = new byte[most];
+                    r[i] = 9;
+                    r[i + 1] = 9;
+                    check.due(n + " with k " + k + ", two alike at " + i, openedPadded(n, r), -6);
+                }
+            }
+        }
+    }
+
+    /** Two octets that are wrong by the same must not make up for each other. */
+    private static void tagPairs() {
+        check.says("Terms 2: -6 if the TAG is not that (of 15: V), also with two octets wrong alike");
+        for (int kind = 12; kind <= 16; kind++) {
+            Rows rows = new Rows(kind).data(Rows.octets(5, 1));
+            byte[] sealed = rows.sealed();
+            int at = kind == 15 ? 0 : 5;
+            for (int i = 0; i < 16; i++) {
+                for (int j = i + 1; j < 16; j++) {
+                    byte[] other = sealed.clone();
+                    other[at + i] ^= 32;
+                    other[at + j] ^= 32;
+                    check.due(kind + ": octets " + i + " and " + j, opened(rows.data(other)), -6);
                 }
             }
         }
