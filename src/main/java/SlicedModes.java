@@ -807,12 +807,13 @@ public final class SlicedModes {
         void expand(Row key, int from, int octets) {
             int n = octets == 32 ? 8 : octets == 24 ? 6 : 4;
             rounds = n + 6;
-            for (int i = 0; i < n; i++) {
+            int end = Math.min(4 * rounds + 4, words.length);
+            for (int i = 0; i < n && i < end; i++) {
                 words[i] = (int) (key.eightAt(from + 4 * i) >>> 32);
             }
             int power = 1;
             int step = 0;
-            for (int i = n; i < 4 * rounds + 4; i++) {
+            for (int i = n; i < end; i++) {
                 int t = words[i - 1];
                 if (step == 0) {
                     t = boxed(t << 8 | t >>> 24) ^ power << 24;
@@ -833,7 +834,7 @@ public final class SlicedModes {
         }
 
         private void sliceKeys() {
-            for (int r = 0; r < 15; r++) {
+            for (int r = 0; 2 * r + 1 < keys.length; r++) {
                 slices.split(pair(4 * r), pair(4 * r + 2));
                 keys[2 * r] = slices.low;
                 keys[2 * r + 1] = slices.high;

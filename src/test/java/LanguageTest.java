@@ -5,6 +5,8 @@ import java.lang.reflect.Method;
 import java.lang.reflect.Modifier;
 import java.nio.file.Files;
 import java.nio.file.Path;
+import java.util.ArrayList;
+import java.util.List;
 import java.util.Set;
 import java.util.TreeSet;
 import java.util.regex.Matcher;
@@ -92,13 +94,55 @@ public final class LanguageTest {
             Matcher found = Pattern.compile(word).matcher(code);
             check.holds("the file has " + word, !found.find());
         }
-        Matcher method = Pattern.compile("(?ms)^( +)(?:\\w+ )+\\w+\\([^)]*\\) \\{\n.*?^\\1\\}").matcher(code);
-        int methods = 0;
-        while (method.find()) {
-            methods++;
-            long lines = method.group().lines().filter(line -> !line.isBlank()).count();
-            check.holds("a method of some sixty lines: " + method.group().lines().findFirst(), lines <= 60);
+        List<String> methods = methods(code);
+        check.holds("methods are found", methods.size() > 100);
+        for (String method : methods) {
+            long lines = method.lines().filter(line -> !line.isBlank()).count();
+            check.holds("a method of some sixty lines: " + head(method), lines <= 60);
+            indexes(method);
+            check.holds("made in constructors alone: " + head(method),
+                    head(method).contains("public SlicedModes(") || !Pattern.compile("\\bnew\\b").matcher(method).find());
         }
-        check.holds("methods are found", methods > 100);
+        circuits(code);
+    }
+
+    /** With their heads; the constructors of the classes inside are not among them. */
+    private static List<String> methods(String code) {
+        List<String> found = new ArrayList<>();
+        Matcher method = Pattern.compile("(?ms)^( +)(?:\\w+ )+\\w+\\([^)]*\\) \\{\n.*?^\\1\\}").matcher(code);
+        while (method.find()) {
+            found.add(method.group());
+        }
+        return found;
+    }
+
+    private static String head(String method) {
+        return method.lines().findFirst().orElse("").trim();
+    }
+
+    /** "An index is looked at before it is used": the method itself asks for the array's length. */
+    private static void indexes(String method) {
+        Matcher used = Pattern.compile("\\b(\\w+)\\[(?!\\])").matcher(method);
+        while (used.find()) {
+            String array = used.group(1);
+            boolean looked = Pattern.compile("\\b" + array + "\\.length\\b").matcher(method).find();
+            check.holds("an index of " + array + " is looked at: " + head(method), looked);
+        }
+    }
+
+    /** "No secret chooses a place or a way": a circuit has neither index nor condition. */
+    private static void circuits(String code) {
+        Matcher slices = Pattern.compile("(?ms)^    private static final class Slices \\{\n.*?^    \\}").matcher(code);
+        check.holds("the circuits are found", slices.find());
+        int looked = 0;
+        for (String method : methods(slices.group())) {
+            // The round keys are chosen by the round, which is no secret.
+            if (!head(method).startsWith("void addKey(")) {
+                looked++;
+                check.holds("a circuit: " + head(method),
+                        !Pattern.compile("\\bif\\b|\\?|\\[|\\bfor\\b|\\bswitch\\b|&&|\\|\\|").matcher(method).find());
+            }
+        }
+        check.holds("circuits are looked at", looked > 12);
     }
 }
